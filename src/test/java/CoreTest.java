@@ -123,10 +123,10 @@ public final class CoreTest {
         int c = 0;
         x = new SignedCore();
         for (int a = 0; a < 400; a++) {
-            x.put(a, (a * 7919) & 262143);
+            x.put(a, (a * 7919 + 262143) & 262143);
         }
         for (int a = 0; a < 4096; a++) {
-            c = 31 * c + (a < 400 ? (a * 7919) & 262143 : 0);
+            c = 31 * c + (a < 400 ? (a * 7919 + 262143) & 262143 : 0);
         }
         Check.due("many words", x.digest(), c);
         Check.due("the same again", x.digest(), c);

@@ -97,10 +97,29 @@ public final class GroupsTest {
                 Check.due("FLAGS stay", x.told(4), bits);
             }
         }
+        for (int n = 1; n <= 6; n++) {
+            flagAlone(n, 0, 0);
+            flagAlone(n, 262143, 262143);
+        }
         SignedCore x = Check.machine(1, SIGN, Check.op(Check.SKP, 8 + 2));
         x.switches(1, 0);
         x.run(1);
         Check.due("SWITCH 1 is 1, FLAG 2 is 0", x.told(2), 102);
+    }
+
+    /** A FLAG or SWITCH that is 1 does not skip, whatever AC, IO and OV are; OV stays. */
+    private static void flagAlone(int n, int ac, int io) {
+        int[] ys = {n, n * 8, n + n * 8};
+        for (int y : ys) {
+            for (int ov = 0; ov <= 1; ov++) {
+                SignedCore x = Check.machine(ac, io, Check.op(Check.SKP, y));
+                x.set(3, ov);
+                x.set(4, 63);
+                x.switches(63, 0);
+                x.run(1);
+                Check.state("SKP " + y + ", all are 1", x, ac, io, 101, ov);
+            }
+        }
     }
 
     /** One place by text: the way that kind tells, of a row of bits. */
@@ -246,14 +265,18 @@ public final class GroupsTest {
             int meant = n == 7 ? 63 : n == 0 ? 0 : 1 << (n - 1);
             int[] before = {0, 63, 21, 42};
             for (int f : before) {
-                SignedCore x = Check.machine(0, 0, Check.op(Check.OPR, 8 + n));
+                SignedCore x = Check.machine(12, 7, Check.op(Check.OPR, 8 + n));
                 x.set(4, f);
-                x.run(1);
+                x.switches(63, 3);
+                Check.due("FLAG " + n + " without HALT", x.run(1), 0);
                 Check.due("FLAG " + n + " becomes 1", x.told(4), f | meant);
-                x = Check.machine(0, 0, Check.op(Check.OPR, n));
+                Check.state("FLAG " + n + " becomes 1", x, 12, 7, 101, 0);
+                x = Check.machine(12, 7, Check.op(Check.OPR, n));
                 x.set(4, f);
-                x.run(1);
+                x.switches(63, 3);
+                Check.due("FLAG " + n + " without HALT", x.run(1), 0);
                 Check.due("FLAG " + n + " becomes 0", x.told(4), f & (63 - meant));
+                Check.state("FLAG " + n + " becomes 0", x, 12, 7, 101, 0);
             }
         }
         SignedCore x = Check.machine(0, 0, Check.op(Check.OPR, 256 + 8 + 3));
