@@ -10,8 +10,14 @@ final class Check {
 
     private static int wrong = 0;
     private static int asked = 0;
+    private static String sentence = "";
 
     private Check() {
+    }
+
+    /** The document's sentence that the next answers belong to, for what is printed of them. */
+    static void sentence(String words) {
+        sentence = "[" + words + "] ";
     }
 
     static void due(String what, long got, long want) {
@@ -19,7 +25,7 @@ final class Check {
         if (got != want) {
             wrong++;
             if (wrong <= 50) {
-                System.out.println(what + ": answered " + got + ", due is " + want);
+                System.out.println(sentence + what + ": answered " + got + ", due is " + want);
             }
         }
     }
@@ -57,6 +63,13 @@ final class Check {
     static SignedCore machine(int ac, int io, int instruction, int c) {
         SignedCore x = machine(ac, io, instruction);
         x.put(200, c);
+        return x;
+    }
+
+    /** Does the one instruction of machine(ac, io, instruction, c), which must not HALT. */
+    static SignedCore did(int ac, int io, int instruction, int c) {
+        SignedCore x = machine(ac, io, instruction, c);
+        due("run of " + instruction, x.run(1), SignedCore.DONE);
         return x;
     }
 
