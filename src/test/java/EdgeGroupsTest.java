@@ -317,10 +317,12 @@ public final class EdgeGroupsTest {
         for (int f : before) {
             for (int n = 0; n <= 7; n++) {
                 int meant = n == 0 ? 0 : n == 7 ? 63 : 1 << (n - 1);
-                SignedCore x = with(1, 2, 1, f, 63 - f);
+                SignedCore x = with(1, 2, 1, f, 0);
+                x.switches(63 - f, 262142);
                 x.put(100, Check.op(Check.OPR, 8 + n));
                 x.put(101, Check.op(Check.OPR, n));
                 x.run(1);
+                Check.state("FLAG " + n + " alone", x, 1, 2, 101, 1);
                 Check.due("FLAG " + n + " of " + f + " becomes 1", x.told(4), f | meant);
                 x.set(4, f);
                 x.run(1);

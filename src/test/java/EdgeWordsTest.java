@@ -36,6 +36,8 @@ public final class EdgeWordsTest {
         disGoesThroughBoth();
         disMakesMinusZero0();
         disAddsOneBehindTheSum();
+        logicOfAllBits();
+        movesOfWholeWords();
         dapTakes12Bits();
         dipTakes6Bits();
         lawOf12Bits();
@@ -291,6 +293,39 @@ public final class EdgeWordsTest {
         Check.state("SUM is minus zero, then 1", did(Check.DIS, SIGN, 0, MZ), 1, 0, 101, 0);
         Check.state("SUM is above 262143", did(Check.DIS, MZ, MZ, MZ), 1, MZ - 1, 101, 0);
         Check.state("SUM over the sign", did(Check.DIS, SIGN, 0, MOST), SIGN, 0, 101, 0);
+    }
+
+    private static void logicOfAllBits() {
+        Check.sentence("AND: AC and C. IOR: or. XOR: one of both (all 18 bits)");
+        int[] words = {0, 1, MOST, SIGN, MZ - 1, MZ};
+        for (int a : words) {
+            for (int c : words) {
+                Check.state("AND " + a + ", " + c, did(Check.AND, a, 7, c), a & c, 7, 101, 0);
+                Check.state("IOR " + a + ", " + c, did(Check.IOR, a, 7, c), a | c, 7, 101, 0);
+                Check.state("XOR " + a + ", " + c, did(Check.XOR, a, 7, c), a ^ c, 7, 101, 0);
+            }
+        }
+    }
+
+    private static void moved(int code, int ac, int io, int wantAc, int wantIo, int wantC) {
+        SignedCore x = did(code, ac, io, 5);
+        String what = code + " of " + ac + ", " + io;
+        Check.state(what, x, wantAc, wantIo, 101, 0);
+        Check.due(what + ": C", x.core(200), wantC);
+    }
+
+    private static void movesOfWholeWords() {
+        Check.sentence("LAC, LIO, DAC, DIO, DZM: the word (minus zero too)");
+        int[] words = {0, SIGN, MZ};
+        for (int w : words) {
+            moved(Check.DAC, w, 9, w, 9, w);
+            moved(Check.DIO, 9, w, 9, w, w);
+            moved(Check.DZM, w, w, w, w, 0);
+            moved(Check.LAC, w, 9, 5, 9, 5);
+            moved(Check.LIO, 9, w, 9, 5, 5);
+            Check.due("LAC of " + w, did(Check.LAC, 3, 4, w).told(0), w);
+            Check.due("LIO of " + w, did(Check.LIO, 3, 4, w).told(1), w);
+        }
     }
 
     private static void dapTakes12Bits() {
