@@ -1,9 +1,7 @@
 import java.io.IOException;
-import java.io.StringWriter;
 import java.lang.reflect.Field;
 import java.lang.reflect.Method;
 import java.lang.reflect.Modifier;
-import java.net.URI;
 import java.net.URL;
 import java.net.URLClassLoader;
 import java.nio.file.DirectoryStream;
@@ -18,10 +16,6 @@ import java.util.regex.Matcher;
 import java.util.regex.Pattern;
 import java.util.stream.Collectors;
 import java.util.stream.Stream;
-import javax.tools.JavaCompiler;
-import javax.tools.JavaFileObject;
-import javax.tools.SimpleJavaFileObject;
-import javax.tools.ToolProvider;
 
 /** README.md: its lines of Java answer what it says of them, and it leaves no call, constant or test out. */
 public final class ReadmeTest {
@@ -91,19 +85,14 @@ public final class ReadmeTest {
         return "answers.add(new int[] {" + m.group(1) + ", " + m.group(2) + "});";
     }
 
-    private static void compile(String source, Path built) {
-        JavaCompiler compiler = ToolProvider.getSystemJavaCompiler();
-        JavaFileObject file = new SimpleJavaFileObject(URI.create("string:///Example.java"), JavaFileObject.Kind.SOURCE) {
-            @Override
-            public CharSequence getCharContent(boolean ignoreErrors) {
-                return source;
-            }
-        };
-        List<String> options = List.of("-d", built.toString(), "-cp", System.getProperty("java.class.path"));
-        StringWriter said = new StringWriter();
-        boolean well = compiler.getTask(said, null, null, options, null, Collections.singletonList(file)).call();
-        if (!well) {
-            throw new IllegalStateException("README.md's lines of Java do not compile:\n" + said);
+    /** By the javac that .ci/run has found, too: the java that runs this need not bring a compiler. */
+    private static void compile(String source, Path built) throws Exception {
+        Path file = built.resolve("Example.java");
+        Files.writeString(file, source);
+        Process javac = new ProcessBuilder("javac", "-d", built.toString(),
+                "-cp", System.getProperty("java.class.path"), file.toString()).inheritIO().start();
+        if (javac.waitFor() != 0) {
+            throw new IllegalStateException("README.md's lines of Java do not compile");
         }
     }
 
